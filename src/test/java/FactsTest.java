@@ -7,6 +7,7 @@ public final class FactsTest {
         promise17EventRefused();
         promise18About();
         promise18Users();
+        promise18ChainOfFallingNumbers();
         promise18AboutRefused();
         due.end();
     }
@@ -88,6 +89,24 @@ public final class FactsTest {
             due.is("users of " + source, room.about(source, 3), users[source]);
             due.is("depth of " + source, room.about(source, 2), depths[source]);
         }
+    }
+
+    private static void promise18ChainOfFallingNumbers() {
+        CuttingRoom room = new CuttingRoom();
+        for (int sequence = 0; sequence <= 5; sequence++) {
+            room.sequence();
+        }
+        room.clip(5);
+        for (int sequence = 4; sequence >= 0; sequence--) {
+            int part = sequence == 4 ? 6 : sequence + 1;
+            due.yes(part + " in " + sequence, Due.lay(room, part, 0, 5, sequence, 0, 0));
+        }
+        due.no("depth 5", Due.lay(room, 5, 0, 5, 4, 1, 0));
+        for (int sequence = 0; sequence <= 4; sequence++) {
+            due.is("users of " + sequence, room.about(sequence, 3), sequence);
+            due.is("depth of " + sequence, room.about(sequence, 2), 4 - sequence);
+        }
+        due.is("users of the clip", room.about(6, 3), 5);
     }
 
     private static void promise18AboutRefused() {

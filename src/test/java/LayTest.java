@@ -205,9 +205,9 @@ public final class LayTest {
         for (int s = 0; s < 3; s++) {
             room.sequence();
         }
-        due.no("in itself, by insert", Due.lay(room, 0, 0, 5, 0, 0, 0));
+        due.no("in itself, by overwrite", Due.lay(room, 0, 0, 5, 0, 0, 0));
         room.pick(0, 0, 5, 1, 1);
-        due.no("in itself", room.insert(0, 0, 0));
+        due.no("in itself, by insert", room.insert(0, 0, 0));
         due.yes("0 in 1", room.insert(1, 0, 0));
         room.pick(1, 0, 5, 1, 1);
         due.no("1 in 0", room.insert(0, 0, 0));

@@ -115,6 +115,9 @@ public final class PictureTest {
         due.is("nothing of it", room.pixel(2, 0, 0), 0);
         room.style(2, 0, 0, 0, 1);
         due.is("(200 + 128) / 256", room.pixel(2, 0, 0), 0x010000);
+        room.paint(1, 0, 0, 0, 0x7F80FF);
+        due.is("just below and just at a half", room.pixel(2, 0, 0), 0x000101);
+        room.paint(1, 0, 0, 0, 0xC80000);
         Due.lay(room, 0, 0, 1, 2, 1, 0);
         room.style(2, 0, 0, 0, 256);
         room.style(2, 1, 0, 1, 64);

@@ -147,6 +147,9 @@ public final class TrimTest {
         }
         due.no("ahead of frame 0", room.trim(2, 0, 0, 3, -1));
         due.yes("k of 200", room.trim(2, 0, 0, 3, 200));
+        due.no("k of 201", room.trim(2, 0, 0, 3, 201));
+        room.trim(2, 0, 0, 3, 1);
+        due.no("k of -201", room.trim(2, 0, 0, 3, -201));
     }
 
     private static void promise11WithASpeed() {
