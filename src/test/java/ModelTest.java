@@ -13,7 +13,9 @@ import java.util.Set;
  */
 public final class ModelTest {
     private static final int RUNS = 1500;
-    private static final int CALLS = 512;
+    /** An object is used for 512 calls; the rest of them looks at pictures at the end. */
+    private static final int CALLS = 432;
+    private static final int LOOKS = 80;
     private static final int SOURCE = 0, ENTRY = 1, SKIP = 2, START = 3, LENGTH = 4, NUM = 5, DEN = 6, BLEND = 7,
             LEVEL = 8, KIND = 9, CROSS = 10;
     private static final long ARGUMENT = Long.MIN_VALUE, STATE = ARGUMENT + 1, INDEX = ARGUMENT + 2;
@@ -55,7 +57,7 @@ public final class ModelTest {
             }
             agreed[call] += got == 1 || call == 4 && got == 0 ? 1 : 0;
         }
-        compareAll(run, room, model);
+        comparePictures(run, room, model);
     }
 
     private static int chooseCall(Random random, int edits) {
@@ -175,13 +177,13 @@ public final class ModelTest {
         }
     }
 
-    private static void compareAll(int run, CuttingRoom room, Model model) {
-        for (int s = 0; s < model.sources.size(); s++) {
-            for (int frame = -1; frame < 80; frame++) {
-                if (room.pixel(s, frame, frame & 15) != model.colour(s, frame, frame & 15)) {
-                    System.out.println("run " + run + ": at the end source " + s + " differs at frame " + frame);
-                    System.exit(1);
-                }
+    private static void comparePictures(int run, CuttingRoom room, Model model) {
+        for (int look = 0; look < LOOKS; look++) {
+            int s = look % model.sources.size();
+            int frame = look - 1;
+            if (room.pixel(s, frame, frame & 15) != model.colour(s, frame, frame & 15)) {
+                System.out.println("run " + run + ": at the end source " + s + " differs at frame " + frame);
+                System.exit(1);
             }
         }
     }
