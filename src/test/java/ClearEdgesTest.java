@@ -58,7 +58,7 @@ public final class ClearEdgesTest {
         sentences.holds("8: from is not less than to",
                 room(), "! lift 1 1 12 12 = false", "! lift 1 1 13 12 = false", "! lift 1 1 20 10 = false",
                 "! lift 1 1 10 10 = false", "! lift 1 1 200 0 = false", "! lift 1 1 MAX MIN = false",
-                "lift 1 1 12 13 = true");
+                "! lift 1 1 MIN MAX = false", "lift 1 1 12 13 = true");
         sentences.holds("8: to is at most 200",
                 room(), Sentences.refused("lift 1 1 12 ?", "false", 201, 202, "MAX"), "lift 1 1 12 200 = true");
         sentences.holds("8: from is a frame",
@@ -129,7 +129,8 @@ public final class ClearEdgesTest {
     private static void promise9FromAndTo() {
         sentences.holds("9: from is not less than to",
                 room(), "! extract 1 12 12 = false", "! extract 1 13 12 = false", "! extract 1 0 0 = false",
-                "! extract 1 200 0 = false", "! extract 1 MAX MIN = false", "extract 1 12 13 = true");
+                "! extract 1 200 0 = false", "! extract 1 MAX MIN = false", "! extract 1 MIN MAX = false",
+                "extract 1 12 13 = true");
         sentences.holds("9: to is at most 200",
                 room(), Sentences.refused("extract 1 12 ?", "false", 201, 202, "MAX"), "extract 1 12 200 = true");
         sentences.holds("9: from is a frame",

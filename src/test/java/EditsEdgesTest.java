@@ -20,6 +20,10 @@ public final class EditsEdgesTest {
         noSuchEvent();
         allOfAnEventsFrames();
         eachIsOneEdit();
+        emptySequence();
+        fullSequence();
+        sequenceOfTwoHundredFrames();
+        fullRoom();
         usedByItself();
         usedByItselfThroughOthers();
         depthOfFour();
@@ -84,6 +88,56 @@ public final class EditsEdgesTest {
                     "track 1 0 = 0.2.0.10.4 0.2.0.14.4 0.2.0.18.4", "track 1 1 = 0.2.0.10.4 0.2.0.14.4 0.2.0.18.4",
                     "track 1 2 = 0.2.0.10.4 0.2.0.14.4 0.2.0.18.4", "looks 1 1 1 = 1.1.0.256.0.0");
         }
+    }
+
+    private static void emptySequence() {
+        sentences.holds("EDITS: an empty sequence has no event to be edited",
+                "clip 20", "sequence", "pick 0 0 4 1 1", "! lift 1 0 0 200 = false", "! extract 1 0 200 = false",
+                "! blade 1 0 1 = false", Sentences.refused("trim 1 0 0 ? 1", "false", 0, 1, 2, 3, 4),
+                "! cross 1 0 0 1 0 = false", "! style 1 0 0 1 1 = false", "count 1 = 0", "insert 1 0 0 = true", "undo",
+                "overwrite 1 0 0 = true");
+    }
+
+    /** All tracks of sequence 1 have 30 events, of six frames each but for the last one, which goes on to 199. */
+    private static List<Object> full() {
+        return List.of("clip 20", "sequence", "pick 0 0 6 1 2",
+                Sentences.times(90, i -> "overwrite 1 " + i / 30 + " " + i % 30 * 6 + " = true"),
+                Sentences.times(3, t -> "trim 1 " + t + " 179 1 20 = true"));
+    }
+
+    private static void fullSequence() {
+        sentences.holds("EDITS: a full sequence: what would be the 31st event or behind frame 199",
+                full(), "about 1 1 = 200", "event 1 0 NONE 0 = 30",
+                Sentences.refused("insert 1 1 ?", "false", 0, 3, 6, 199),
+                Sentences.refused("overwrite 1 1 ?", "false", 3, 185, 194, 195), "! lift 1 2 1 2 = false",
+                "! extract 1 1 2 = false", "! blade 1 0 199 = false", "! trim 1 0 199 1 1 = false",
+                "! trim 1 0 0 0 -1 = false", "! trim 1 0 0 1 1 = false", "count 1 = 40");
+        sentences.holds("EDITS: a full sequence: what leaves it within its limits",
+                full(), "overwrite 1 1 6 = true", "trim 1 0 6 2 2 = true", "trim 1 0 8 3 1 = true",
+                "trim 1 0 8 4 -1 = true", "cross 1 0 199 2 26 = true", "style 1 2 199 4 0 = true",
+                "lift 1 2 0 3 = true", Sentences.times(3, t -> "event 1 " + t + " NONE 0 = 30"),
+                "extract 1 0 6 = true", "about 1 1 = 194", Sentences.times(3, t -> "event 1 " + t + " NONE 0 = 29"),
+                "insert 1 0 0 = true", "about 1 1 = 200", "event 1 0 NONE 0 = 30", "! insert 1 1 0 = false");
+    }
+
+    private static void sequenceOfTwoHundredFrames() {
+        sentences.holds("EDITS: an event of 200 frames on each track",
+                "sequence", "sequence", "pick 0 500 200 1 1",
+                Sentences.times(3, t -> "overwrite 1 " + t + " 0 = true"),
+                Sentences.refused("trim 1 1 0 0 ?", "false", -1, 200),
+                Sentences.refused("trim 1 1 0 1 ?", "false", 1, -200),
+                "pick 0 0 1 1 1", Sentences.refused("insert 1 2 ?", "false", 0, 1, 199), "blade 1 0 199 = true",
+                "! insert 1 0 199 = false", "extract 1 199 200 = true", "track 1 0 = 0.500.0.0.199",
+                "insert 1 0 199 = true", "track 1 0 = 0.500.0.0.199 0.0.0.199.1", "track 1 2 = 0.500.0.0.199");
+    }
+
+    private static void fullRoom() {
+        sentences.holds("EDITS: the last sequence of a full room",
+                Sentences.times(16, i -> i < 14 ? "clip 4" : "sequence"), "pick 13 0 4 1 1", "! insert 16 0 0 = false",
+                "! insert 13 0 0 = false", "insert 15 0 0 = true", "pick 15 0 4 1 1", "! overwrite 15 1 0 = false",
+                "overwrite 14 1 0 = true", "about 14 2 = 1", "pick 14 0 4 1 1", "! overwrite 15 1 0 = false",
+                "blade 15 0 2 = true", "trim 15 0 0 2 1 = true", "extract 15 0 1 = true", "lift 15 0 0 1 = true",
+                "undo", "undo", "track 15 0 = 13.0.0.0.3 13.0.3.3.1");
     }
 
     /** So many sequences, numbered from 0 on, each from 1 on with an event of the one ahead of it. */

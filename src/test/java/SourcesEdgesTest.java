@@ -169,7 +169,8 @@ public final class SourcesEdgesTest {
         sentences.holds("4: to <= 15",
                 painted(), Sentences.refused("paint 0 0 0 ? 1", "false", 16, 17, "MAX"),
                 "! paint 0 0 16 16 1 = false", "! paint 0 0 15 16 1 = false", "! paint 0 0 -1 -1 1 = false",
-                "! paint 0 0 MAX MAX 1 = false", "! paint 0 0 MIN MIN 1 = false", "paint 0 0 15 15 1 = true");
+                "! paint 0 0 MAX MAX 1 = false", "! paint 0 0 MIN MIN 1 = false", "! paint 0 0 MIN MAX 1 = false",
+                "paint 0 0 15 15 1 = true");
     }
 
     private static void promise4NoColour() {
