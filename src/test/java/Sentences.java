@@ -22,9 +22,11 @@ final class Sentences {
             boolean mustChangeNothing = row.startsWith(REFUSED);
             String bare = mustChangeNothing ? row.substring(REFUSED.length()) : row;
             String[] parts = bare.split("=", -1);
-            check(sentence, bare, room.answer(parts[0]), parts.length > 1 ? parts[1].trim() : null);
+            String due = parts.length > 1 ? parts[1].trim() : null;
+            check(sentence, bare, room.answer(parts[0]), due);
             if (mustChangeNothing) {
                 checkNothingChanged(sentence, kept, parts[0]);
+                checkWithAnUndoneEdit(sentence, kept, parts[0], due);
             } else {
                 kept.add(parts[0]);
             }
@@ -53,6 +55,19 @@ final class Sentences {
         if (without.size() != with.size()) {
             tell(sentence, call + "changed the sources");
         }
+    }
+
+    /** What is refused must leave what can be done again, too; there is mostly nothing yet in the run itself. */
+    private void checkWithAnUndoneEdit(String sentence, List<String> kept, String call, String due) {
+        String edit = Views.goodEdit(played(kept));
+        if (edit.isEmpty() || call.startsWith("redo")) {
+            return;
+        }
+        List<String> more = new ArrayList<>(kept);
+        more.add(edit);
+        more.add("undo");
+        check(sentence, call + "behind an undone edit", played(more).answer(call), due);
+        checkNothingChanged(sentence, more, call);
     }
 
     private static Room played(List<String> calls) {

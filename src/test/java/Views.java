@@ -102,4 +102,19 @@ final class Views {
         String laid = room.call("overwrite", sequence, 0, 0);
         return laid + (laid.equals("true") ? " " + room.facts(sequence, 0, 0, 0, 10) : "");
     }
+
+    /** A call of style that is not refused, of the first event that there is; empty if there is none. */
+    static String goodEdit(Room room) {
+        int sources = Integer.parseInt(room.call("count", 0));
+        for (int place = 0; place < 3 * sources; place++) {
+            int source = place / 3;
+            int track = place % 3;
+            String start = room.call("event", source, track, 0, 3);
+            if (!start.endsWith("Exception")) {
+                boolean isNew = !room.facts(source, track, 0, 7, 8).equals("1.1");
+                return "style " + source + " " + track + " " + start + (isNew ? " 1 1" : " 2 2");
+            }
+        }
+        return "";
+    }
 }
