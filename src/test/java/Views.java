@@ -2,7 +2,10 @@ import java.util.ArrayList;
 import java.util.List;
 import java.util.function.Supplier;
 
-/** All that can be seen of a room, in parts: each part is looked at in a room of its own, to keep to its calls. */
+/**
+ * What can be seen of a room: all counts and facts, all pictures of clips, one pixel of each frame of a sequence, how
+ * far it goes to undo and redo, and what is picked. Each part is looked at in a room of its own, to keep to its calls.
+ */
 final class Views {
     private static final int PICTURES_AT_ONCE = 16;
 
